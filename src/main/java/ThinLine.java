@@ -707,9 +707,13 @@ public final class ThinLine {
         int weightiest = -2;
         int most = -1;
         for (int slip = 0; slip < book.slips.size; slip++) {
-            if (look(curve, row, slip) && view.hasDeep() && Math.abs(view.deepness() - deep) > most) {
+            book.readRow(row, slip, view.told, view.seen);
+            view.tally();
+            view.lay();
+            int unlike = Math.abs(view.deepness() - deep);
+            if (view.hasDeep() && unlike > most) {
                 weightiest = slip;
-                most = Math.abs(view.deepness() - deep);
+                most = unlike;
             }
         }
         return weightiest;
@@ -1168,7 +1172,8 @@ public final class ThinLine {
         }
 
         private int cell(int entry, int column) {
-            return has(entry) && column >= 0 && column < COLUMNS ? cells[entry * COLUMNS + column] : 0;
+            boolean there = entry >= 0 && entry < size && column >= 0 && column < COLUMNS;
+            return there ? cells[entry * COLUMNS + column] : 0;
         }
 
         private void set(int entry, int column, int n) {
@@ -1767,6 +1772,7 @@ public final class ThinLine {
     private static final class View {
         private final boolean[] told = new boolean[COLOURS];
         private final boolean[] skipped = new boolean[COLOURS];
+        private final boolean[] used = new boolean[COLOURS];
         private final int[] seen = new int[COLOURS];
         private final int[] height = new int[COLOURS];
         // of the COLOURS with a number that are not skipped: how many lie ahead of a COLOUR, and their READ together
@@ -1816,7 +1822,7 @@ public final class ThinLine {
         }
 
         private boolean isUsed(int colour) {
-            return isTold(colour) && !skipped[colour] && !isInGap(colour);
+            return isColour(colour) && used[colour];
         }
 
         private int leftAt(int colour) {
@@ -1903,12 +1909,14 @@ public final class ThinLine {
             usedLeft = 0;
             for (int colour = 0; colour < COLOURS; colour++) {
                 int left = seen[colour] - height[colour];
-                if (told[colour] && isInGap(colour)) {
-                    gapCount++;
-                    gapLeft += left;
-                } else if (told[colour] && !skipped[colour]) {
+                boolean inGap = colour >= gapFrom && colour <= gapTo;
+                used[colour] = told[colour] && !inGap && !skipped[colour];
+                if (used[colour]) {
                     usedCount++;
                     usedLeft += Math.abs(left);
+                } else if (inGap && told[colour]) {
+                    gapCount++;
+                    gapLeft += left;
                 }
             }
         }
@@ -1944,7 +1952,7 @@ public final class ThinLine {
         private long squares() {
             long sum = 0;
             for (int colour = 0; colour < COLOURS; colour++) {
-                long left = isUsed(colour) ? leftAt(colour) : 0;
+                long left = used[colour] ? seen[colour] - height[colour] : 0;
                 sum += left * left;
             }
             return sum;
@@ -1961,8 +1969,8 @@ public final class ThinLine {
             Arrays.fill(many, 0);
             int rest = 0;
             for (int colour = 0; colour < COLOURS; colour++) {
-                if (view.isUsed(colour)) {
-                    left[rest] += view.leftAt(colour);
+                if (view.used[colour]) {
+                    left[rest] += view.seen[colour] - view.height[colour];
                     many[rest]++;
                 }
                 rest = rest + 1 < period && rest + 1 < MOST_PERIOD ? rest + 1 : 0;
