@@ -105,15 +105,19 @@ public final class CurveTest {
         Due.curve(x, "bends 40; wide 0");
         Due.due("knots: twelve bends", x.deep(0, row, 3), 14);
         Due.due("knots: in the gap", x.deep(1, row, 3), 2);
+        Due.curve(x, "gap 0 0");
+        Due.due("knots: twelve bends, and a gap elsewhere", x.deep(3, row, 3), 14);
         // the k-th of forty at 299 * k by 41: 140 is not in it, 145 and 153 are
         Due.due("knots: forty bends", x.deep(2, row, 3), 40);
         x.row(0, 0);
         Due.due("knots: without numbers", x.deep(0, 1, 3), 0);
         x.raw(1, 3, 5);
         Due.due("knots: at most wide away", x.deep(0, 1, 3), 1);
+        Due.due("knots: at most 3 away without the clause", x.deep(3, 1, 3), 1);
         x.raw(1, 3, -1000000);
         x.raw(1, 4, 5);
         Due.due("knots: farther", x.deep(0, 1, 3), 0);
+        Due.due("knots: farther than 3 without the clause", x.deep(3, 1, 3), 0);
         Due.due("knots: used all the same", x.deep(0, 1, 4), 1);
         Due.due("no curve: height", x.curve(0, 1, 4, 1), -1000000);
         Due.due("no curve: left", x.curve(0, 1, 4, 2), -1000000);
@@ -277,6 +281,9 @@ public final class CurveTest {
         Due.due("deepest: its score", x.deepest(0, row, 1), 50000);
         Due.due("deepest: the first of several", x.deepest(0, flat, 0), 0);
         Due.due("deepest: of several", x.deepest(0, flat, 1), 0);
+        for (int c = 280; c < 300; c++) x.raw(flat, c, 900);
+        Due.due("deepest: the last place", x.deepest(0, flat, 0), 280);
+        for (int c = 280; c < 300; c++) x.raw(flat, c, 1000);
         Due.due("deepest: no place", x.deepest(1, flat, 0), -2000000000);
         Due.due("deepest: no place, no score", x.deepest(1, flat, 1), -2000000000);
         for (int c = 140; c < 160; c++) x.raw(row, c, -1000000);
@@ -301,6 +308,7 @@ public final class CurveTest {
         Due.due("drawn: without what is eaten", x.drawn(0, 0, 0, 3, 50), 0);
         Due.due("drawn: not below", x.drawn(0, 0, 1, 3, 50), 50);
         Due.due("drawn: once", x.drawn(0, 0, 1, Integer.MAX_VALUE, 1), 1);
+        Due.due("drawn: seed 0", x.drawn(0, 0, 1, 0, 1), 1);
         // the SLIP makes the ROW's line shallower, and no drawn one deeper
         x.slip(0, 140, 159, -21);
         Due.due("drawn: slips are the row's alone", x.drawn(0, 0, 0, 3, 7), 7);
@@ -373,6 +381,30 @@ public final class CurveTest {
         Due.due("best: not without a curve, the cost", x.best(0, 0, 5, 1), 5);
         x.raw(0, 149, -1000000);
         Due.due("best: no curve", x.best(0, 0, 0, 0), -2);
+        bestRounds();
+    }
+
+    private static void bestRounds() {
+        ThinLine x = new ThinLine();
+        x.row(0, 0);
+        Due.curve(x, "wide 0; gap 150 150");
+        // a COLOUR that is no knot of any CURVE, and others: 961 and 36 and 1 and 1
+        int[][] left = {{0, 0}, {299, 0}, {1, 31}, {2, 6}, {3, 1}, {4, 1}};
+        for (int[] l : left) x.raw(0, l[0], l[1]);
+        Due.due("best: downwards", x.best(0, 0, 0, 1), 0);
+        x.raw(0, 5, -1);
+        Due.due("best: a thousand", x.best(0, 0, 0, 1), 1);
+        // only forty bends have knots at 7, 14 and 21
+        x = new ThinLine();
+        x.row(0, 0);
+        Due.curve(x, "wide 0; gap 150 150");
+        x.raw(0, 0, 0);
+        x.raw(0, 299, 0);
+        x.raw(0, 7, 90000);
+        x.raw(0, 14, -90000);
+        x.raw(0, 21, 90000);
+        Due.due("best: forty bends", x.best(0, 0, 0, 0), 40);
+        Due.due("best: forty bends, the cost", x.best(0, 0, 0, 1), 0);
     }
 
     private static void taken() {
@@ -395,10 +427,16 @@ public final class CurveTest {
         Due.due("taken: the middle", x.taken(2, 1, 9, 3), 7 - (7 - 6));
         x.raw(1, 150, -1000000);
         Due.due("taken: where there is a number", x.taken(2, 1, 9, 3), 6 - 0);
+        Due.due("taken: as little as can be", x.taken(0, row, 1, 1), 0);
+        x.raw(row, 150, 980);
+        Due.due("taken: by how much more", x.taken(0, row, 2000, 1), 0);
+        x.raw(row, 150, 1000);
         int[][] wrong = {{-1, 0, 1, 1}, {3, 0, 1, 1}, {0, -1, 1, 1}, {0, 2, 1, 1}, {0, 0, 0, 1}, {0, 0, 10000, 1}, {0, 0, 1, 0}, {0, 0, 1, 100}};
         for (int[] w : wrong) Due.due("taken: not as told", x.taken(w[0], w[1], w[2], w[3]), -2000000);
         x.raw(1, 151, -1000000);
         Due.due("taken: no deep", x.taken(2, 1, 9, 3), -1000000);
+        Due.curve(x, "gap 0 0");
+        Due.due("taken: at the first colour", x.taken(3, row, 50, 1), 0);
     }
 
     private static void apart() {

@@ -166,6 +166,10 @@ public final class GlassesTest {
         x.house(0, 999999, 15);
         x.house(0, 999999, 15);
         Due.due("agreed: three of six", x.agreed(399), -2);
+        ThinLine early = byHour();
+        row(early, 0, 0, 9);
+        early.house(0, 1, 1);
+        Due.due("agreed: in the first week", early.agreed(0), 0);
         Due.due("agreed: below", x.agreed(-1), ThinLine.NONE);
         Due.due("agreed: above", x.agreed(400), ThinLine.NONE);
     }
@@ -206,9 +210,22 @@ public final class GlassesTest {
         // of 0, 10, 20, 30, 30 the middle is 20
         Due.due("odd: the farthest", x.odd(0, 1), 6);
         Due.due("odd: one row", x.odd(0, 0), -2);
+        oddOfMany();
         Due.due("odd: no rows", x.odd(0, 3), -2);
         int[][] wrong = {{-1, 0}, {1, 0}, {0, -1}, {0, 4}};
         for (int[] w : wrong) Due.due("odd: not as told", x.odd(w[0], w[1]), ThinLine.NONE);
+    }
+
+    private static void oddOfMany() {
+        ThinLine x = byHour();
+        // DEEP 0, 10, 20 and so on, the greatest first: the middle is 110, and 230 is the farthest of all
+        for (int i = 23; i >= 0; i--) row(x, 0, 2, 10 * i);
+        Due.due("odd: of as many as can be", x.odd(0, 2), 0);
+        x.slip(2, 140, 159, -5);
+        Due.due("odd: all of them less", x.odd(0, 2), 0);
+        // without the greatest the middle is 110 of 0 to 220: of several the least
+        for (int c = 140; c < 160; c++) x.raw(0, c, -1000000);
+        Due.due("odd: of 23", x.odd(0, 2), 1);
     }
 
     private static void candidate() {
@@ -259,6 +276,7 @@ public final class GlassesTest {
         noisy(x, 0, 10);
         noisy(x, 1, 5);
         x.candidate(0, 20);
+        Due.due("next: the only one", x.next(0, 20, 0), 1);
         x.candidate(1, 10);
         x.candidate(1, 10);
         x.candidate(0, 20);

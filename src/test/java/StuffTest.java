@@ -75,6 +75,22 @@ public final class StuffTest {
         x.raw(0, 299, -1000000);
         Due.due("bound: no curve", x.stuff(1, 0, 1, 3), ThinLine.NONE);
         Due.due("else: no curve is needed", x.stuff(1, 0, 1, 1), 1);
+        x = straight();
+        x.line(0, 150, 1);
+        x.raw(0, 150, 999);
+        Due.due("amount: deep 1, depth 1", x.stuff(0, 0, 0, 0), 1000);
+        x.raw(0, 0, 100000);
+        x.raw(0, 299, 100000);
+        x.raw(0, 150, 99000);
+        x.raw(0, 20, -100000);
+        x.slip(0, 20, 20, 9999);
+        // an AMOUNT of 1000000 of 419 is 419000; LEFT is -209999
+        x.line(1, 20, 419);
+        x.line(1, 150, 1);
+        Due.due("there: enough", x.stuff(0, 0, 1, 2), 1);
+        x.line(2, 20, 420);
+        x.line(2, 150, 1);
+        Due.due("there: just not enough", x.stuff(0, 0, 2, 2), 0);
         // an AMOUNT of 0 is there wherever LEFT is not above 0
         x = straight();
         x.raw(0, 150, 1000);
@@ -111,6 +127,14 @@ public final class StuffTest {
         Due.due("likeliest: no deep", x.likeliest(0, 0), -2);
         int[][] wrong = {{-1, 0}, {1, 0}, {0, -1}, {0, 1}};
         for (int[] w : wrong) Due.due("likeliest: not as told", x.likeliest(w[0], w[1]), ThinLine.NONE);
+        x.raw(0, 150, 900);
+        x.line(0, 150, 500);
+        x.line(0, 31, 500);
+        x.line(11, 150, 500);
+        x.line(11, 32, 500);
+        Due.due("likeliest: the first stuff", x.likeliest(0, 0), 0);
+        x.line(0, 30, 500);
+        Due.due("likeliest: the last stuff", x.likeliest(0, 0), 11);
     }
 
     /** READ is 0 but at 10 and 16, and in the gap at 151. */
@@ -164,6 +188,19 @@ public final class StuffTest {
         Due.due("smooth: no deep", x.smooth(1, 0), -1000000);
         int[][] wrong = {{-1, 0}, {2, 0}, {0, -1}, {0, 1}};
         for (int[] w : wrong) Due.due("smooth: not as told", x.smooth(w[0], w[1]), -2000000);
+        smoothAtFirst();
+    }
+
+    private static void smoothAtFirst() {
+        ThinLine x = new ThinLine();
+        x.row(0, 0);
+        Due.curve(x, "bends 0; wide 0; gap 0 0");
+        int[][] read = {{299, 0}, {20, 50}, {40, 50}, {7, -30}, {27, -30}, {0, -10}};
+        for (int[] r : read) x.raw(0, r[0], r[1]);
+        // 5 is the first to keep the likes together and the others apart; 0 has the rest of 20 and 40
+        Due.due("smooth: the period", x.ripple(0, 0, 0), 5);
+        Due.due("smooth: the power", x.ripple(0, 0, 1), 5000 + 1800);
+        Due.due("smooth: at the first colour", x.smooth(0, 0), 60);
     }
 
     private static void without() {

@@ -104,6 +104,10 @@ public final class TextTest {
         fault(0, "shine", 5, 0);
         fault(0, "shine ", 6, 0);
         fault(0, "shines 1", 0, 0);
+        fault(0, "shinez 1", 0, 0);
+        fault(0, "thine 1", 0, 0);
+        fault(0, "shin 1", 0, 0);
+        fault(0, "shine colouz", 6, 0);
         fault(0, " Shine 1", 1, 0);
         fault(0, "shine 1 2", 8, 0);
         fault(0, "shine colour glass", 13, 0);
@@ -180,6 +184,9 @@ public final class TextTest {
     private static void tooDeep() {
         stands(1, "skip " + times(10, "[") + "1<2" + times(10, "]"));
         stands(1, "skip " + times(10, "not ") + "1<2");
+        stands(0, "shine 1 if " + times(10, "[") + "1<2" + times(10, "]"));
+        stands(2, "gives 1 if " + times(10, "not ") + "1<2");
+        fault(0, "shine 1 if " + times(11, "[") + "1<2", 21, 2);
         stands(1, "skip " + times(5, "not [") + "1<2" + times(5, "]"));
         stands(1, "skip " + times(3, "[1<2]and ") + times(10, "[") + "1<2" + times(10, "]") + " or not 1<2");
         fault(1, "skip " + times(11, "[") + "1<2" + times(11, "]"), 15, 2);
@@ -283,6 +290,10 @@ public final class TextTest {
         worth("1 if not 1>2 and 1>2", 0);
         worth("1 if not [1>2 and 1>2]", 1);
         worth("1 if not not 1<2", 1);
+        worth("1 if not 1<2", 0);
+        worth("1 if not not 1>2", 0);
+        worth("1 if not 1<2 or not 2<3", 0);
+        worth("1 if [1<2] and not [1>2]", 1);
         worth("1 if 1>2 or 1>2 or 1<2", 1);
         worth("1 if 1<2 and 1<2 and 1>2", 0);
         worth("1 if 1>2 and 1<2 or 1<2 and 2<3", 1);
