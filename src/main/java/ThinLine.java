@@ -292,10 +292,11 @@ public final class ThinLine {
         }
         long own = view.scored();
         int ownFrom = view.gapFrom;
+        int length = view.gapLength();
         int places = 0;
         int notBelow = 0;
-        for (int from = 0; from <= COLOURS - view.gapLength(); from++) {
-            if (Math.abs(from - ownFrom) >= view.gapLength()) {
+        for (int from = 0; from <= COLOURS - length; from++) {
+            if (Math.abs(from - ownFrom) >= length) {
                 view.moveTo(from);
                 places += view.hasDeep() ? 1 : 0;
                 notBelow += view.isNotBelow(own) ? 1 : 0;
@@ -309,10 +310,11 @@ public final class ThinLine {
             return -2100000000;
         }
         int ownFrom = view.gapFrom;
+        int length = view.gapLength();
         int where = NONE;
         long most = 0;
-        for (int from = 0; from <= COLOURS - view.gapLength(); from++) {
-            if (Math.abs(from - ownFrom) >= view.gapLength()) {
+        for (int from = 0; from <= COLOURS - length; from++) {
+            if (Math.abs(from - ownFrom) >= length) {
                 view.moveTo(from);
                 if (view.hasDeep() && (where == NONE || view.scored() > most)) {
                     where = from;
@@ -1076,6 +1078,9 @@ public final class ThinLine {
 
         /** READ of a whole ROW, without one SLIP (NONE: with all): where there is a number, and which. */
         private void readRow(int row, int leftOut, boolean[] toldAt, int[] seen) {
+            if (!rows.has(row)) {
+                return;
+            }
             for (int colour = 0; colour < COLOURS; colour++) {
                 int n = rows.raw[row][colour];
                 toldAt[colour] = n != NOTHING;
@@ -1123,7 +1128,11 @@ public final class ThinLine {
             return size - 1;
         }
 
+        /** What there was; whoever calls has seen that there are such a ROW and COLOUR. */
         private int put(int row, int colour, int n) {
+            if (!has(row) || !isColour(colour)) {
+                return NOTHING;
+            }
             int before = raw[row][colour];
             raw[row][colour] = n;
             numbers += (n == NOTHING ? 0 : 1) - (before == NOTHING ? 0 : 1);
