@@ -256,8 +256,9 @@ public final class CurveTest {
         // a deeper line beside: the place on it is not below
         for (int c = 200; c < 220; c++) x.raw(row, c, 500);
         int notBelow = 0;
+        long own = x.deep(0, row, 2);
         for (int from = 0; from <= 280; from++) {
-            notBelow += Math.abs(from - 140) >= 20 && x.moved(0, row, from) >= x.deep(0, row, 2) ? 1 : 0;
+            notBelow += Math.abs(from - 140) >= 20 && x.moved(0, row, from) >= own ? 1 : 0;
         }
         Due.due("elsewhere: those not below", x.elsewhere(0, row, 1), notBelow);
         Due.due("elsewhere: there are some", notBelow > 0, true);

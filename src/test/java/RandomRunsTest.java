@@ -3,7 +3,8 @@ import java.util.Random;
 
 /** Runs of calls with drawn arguments on ThinLine and on the Model: every answer is to be the same. */
 public final class RandomRunsTest {
-    private static final int CALLS = 512;
+    /** A text takes up to twenty-four of the 512 calls of one object. */
+    private static final int CALLS = 512 - 24;
 
     private final Random random;
     private final RandomTexts texts;

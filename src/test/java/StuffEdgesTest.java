@@ -281,8 +281,9 @@ public final class StuffEdgesTest {
             ThinLine x = waves(period);
             Due.due("the period " + period, x.ripple(0, 0, 0), period);
             long squares = 0;
+            int flat = x.read(0, 0);
             for (int c = 0; c < 299; c++) {
-                long left = x.read(0, c) - x.read(0, 0);
+                long left = x.read(0, c) - flat;
                 squares += left * left;
             }
             Due.due("all of it", x.ripple(0, 0, 1), squares);
