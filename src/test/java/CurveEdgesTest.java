@@ -8,6 +8,7 @@ public final class CurveEdgesTest {
         atMostWideAway();
         withoutClauses();
         usedColours();
+        skipsOfEachRow();
         withoutKnots();
         heightsDownwards();
         heightsAheadAndBehind();
@@ -24,9 +25,11 @@ public final class CurveEdgesTest {
         deepestOfSeveral();
         drawnAsDeep();
         drawnOfOneToFifty();
+        drawnAtAllColours();
         bentFromNoneToForty();
         costDownwards();
         bestOfSeveral();
+        bestOfForty();
         bestWithoutCurves();
         takenDownwards();
         takenNearerThanWide();
@@ -120,6 +123,24 @@ public final class CurveEdgesTest {
         Due.due("used by 4, one less", x.deep(4, row, 4), 286);
         x.raw(row, 8, -100000);
         Due.due("used again", x.curve(4, row, 8, 0), 1);
+    }
+
+    private static void skipsOfEachRow() {
+        ThinLine x = new ThinLine();
+        for (int i = 0; i < 4; i++) {
+            x.row(3 - i, 10 * i);
+            x.raw(i, 0, 5);
+        }
+        Due.curve(x, "skip row = 0");
+        Due.curve(x, "skip glass = 0");
+        Due.curve(x, "skip hour = 10");
+        Due.curve(x, "skip colour = 0 and row = 2");
+        int[] skipped = {0, 3, 1, 2};
+        for (int curve = 0; curve < 4; curve++) {
+            for (int row = 0; row < 4; row++) {
+                Due.due("curve " + curve + " for row " + row, x.curve(curve, row, 0, 0), row == skipped[curve] ? 0 : 1);
+            }
+        }
     }
 
     private static void withoutKnots() {
@@ -403,6 +424,17 @@ public final class CurveEdgesTest {
         Due.due("no deep, and not as told", x.drawn(0, 0, 0, 0, 0), ThinLine.NONE);
     }
 
+    private static void drawnAtAllColours() {
+        // the ROW has no number at 151, each drawn one has: 10 and 0 by 2
+        ThinLine x = with("bends 0; wide 0; gap 150 151", 0, 1000, 299, 1000, 150, 990);
+        Due.law(x, "shine 990 if colour = 150; shine 1000");
+        Due.due("its own", x.deep(0, 0, 2), 10000);
+        Due.due("drawn with all colours", x.drawn(0, 0, 0, 0, 3), 0);
+        x.raw(0, 150, 995);
+        Due.due("drawn with all colours, as deep", x.drawn(0, 0, 0, 0, 3), 3);
+        Due.due("the row has them not", x.count(8), 3);
+    }
+
     private static void bentFromNoneToForty() {
         ThinLine x = with("bends 7; wide 0; gap 200 200", 0, 0, 299, 0, 149, 90, 200, -6);
         // straight: DEEP 6, NOISE 30; by one bend at 149: HEIGHT at 200 is 90 less 90 * 51 by 150, upwards: 59
@@ -430,6 +462,9 @@ public final class CurveEdgesTest {
         // squares are together first: 31 * 31 and 6 * 6 and 1 and 1 and 1 are a thousand
         Due.due("cost together", with("wide 0; gap 150 150", 0, 0, 299, 0, 1, 31, 2, 6, 3, 1, 4, 1, 5, 1).best(0, 0, 0, 1), 1);
         Due.due("cost together, one less", with("wide 0; gap 150 150", 0, 0, 299, 0, 1, 31, 2, 6, 3, 1, 4, 1).best(0, 0, 0, 1), 0);
+        // both are a hundred away from their KNOT's height, the first COLOUR, too
+        Due.due("cost of the first colour", with("wide 1; gap 150 150", 0, 0, 1, 200).best(0, 0, 0, 1), 20);
+        Due.due("cost of the last colour", with("wide 1; gap 150 150", 299, 0, 298, 200).best(0, 0, 0, 1), 20);
         Due.due("the gap costs nothing", with("wide 0; gap 150 150", 0, 0, 299, 0, 150, 9999).best(0, 0, 0, 1), 0);
     }
 
@@ -443,6 +478,13 @@ public final class CurveEdgesTest {
         }
         for (int no : new int[] {-1, 100000, Integer.MIN_VALUE, Integer.MAX_VALUE}) Due.due("best by " + no, x.best(0, 0, no, 0), ThinLine.NONE);
         Due.due("its own bends are as they were", x.deep(0, 0, 3), 2);
+    }
+
+    private static void bestOfForty() {
+        // KNOTS at 7, 14 and 21 together have forty bends alone
+        ThinLine x = with("wide 0; gap 200 200", 0, 0, 299, 0, 7, 90000, 14, -90000, 21, 90000);
+        Due.due("forty bends", x.best(0, 0, 0, 0), 40);
+        Due.due("what forty bends cost", x.best(0, 0, 1, 1), 40);
     }
 
     private static void bestWithoutCurves() {
@@ -498,6 +540,9 @@ public final class CurveEdgesTest {
             ThinLine x = with("bends 1; wide 0; gap 139 139", 149, 0, 139, 0);
             Due.due("taken by a knot ten behind, " + d[0] + " wide", x.taken(0, 0, 11, d[0]), d[1]);
         }
+        // the KNOT is the first COLOUR, or the last
+        Due.due("taken by the first", with("bends 0; wide 0; gap 1 1", 0, 0, 1, 0).taken(0, 0, 10, 2), 5);
+        Due.due("taken by the last", with("bends 0; wide 0; gap 298 298", 299, 0, 298, 0).taken(0, 0, 10, 2), 5);
         // at the ends of all COLOURS
         Due.due("taken at the first", with("bends 0; wide 0; gap 0 0", 0, 0, 299, 0).taken(0, 0, 9999, 99), 0);
         Due.due("taken at the last", with("bends 0; wide 0; gap 299 299", 0, 0, 299, 0).taken(0, 0, 9999, 99), 0);

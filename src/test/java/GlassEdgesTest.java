@@ -29,6 +29,7 @@ public final class GlassEdgesTest {
         shortOf();
         fewestWays();
         fewestOfSeveral();
+        asManyRowsAsCanBe();
         Due.end();
     }
 
@@ -547,5 +548,33 @@ public final class GlassEdgesTest {
             Due.due("the first ones", z.fewest(need, 1), (1 << need) - 1);
         }
         Due.due("one more than all", z.fewest(9, 0), -2);
+    }
+
+    /** 24 ROWS, and each of them counts: the first and the last are deeper. */
+    private static void asManyRowsAsCanBe() {
+        ThinLine x = straight();
+        Due.curve(x, "bends 0; wide 0; gap 160 160");
+        for (int i = 0; i < 24; i++) row(x, i, i % 4, i / 2, i == 0 || i == 23 ? 9 : 5);
+        Due.due("together", x.together(0, 15, 399, 0), 16);
+        Due.due("together, below the line", x.together(0, 15, 399, 1), 3);
+        Due.due("apart", x.apart(0, 1, 9000), 2);
+        // HOURS are shared by two and two
+        Due.due("same hour", x.hour(0, 399, 0), 12);
+        Due.due("same hour, together", x.hour(0, 399, 1), 8);
+        Due.due("said by all", x.said(0, 399, 5000), 4);
+        Due.due("said by the first and the last", x.said(0, 399, 9000), 2);
+        Due.due("first of two", x.weeks(0, 0, 99, 9000, 2, 0), 23);
+        Due.due("turns", x.weeks(0, 0, 99, 5000, 1, 1), 3);
+        x.house(0, 9000, 8);
+        x.house(0, 9000, 6);
+        Due.due("says", x.says(0, 23), 1);
+        Due.due("does not say", x.says(0, 22), 0);
+        Due.due("the glasses between", x.says(1, 399), 0);
+        Due.due("agreed", x.agreed(399), -2);
+        Due.due("alone", x.alone(399), 0);
+        Due.due("odd, the first", x.odd(0, 0), 0);
+        Due.due("odd, the last", x.odd(0, 3), 23);
+        x.candidate(3, 1);
+        Due.due("worth", x.next(0, 1, 1), 1000000);
     }
 }

@@ -13,6 +13,7 @@ public final class StuffEdgesTest {
         linesAtTheGapsEnds();
         elseIsAnyNumber();
         thereJustSo();
+        thereOfMuch();
         thereOfNothing();
         boundsOfElse();
         boundOfSeveral();
@@ -163,6 +164,17 @@ public final class StuffEdgesTest {
             x.line(0, 20, d[0]);
             Due.due("amount", x.stuff(0, 0, 0, 0), 200);
             Due.due("there at a depth of " + d[0] + ", left " + d[1], x.stuff(0, 0, 0, 2), d[2]);
+        }
+    }
+
+    private static void thereOfMuch() {
+        int[][] due = {{1000, -49999, 0}, {1000, -50000, 1}, {999, -49950, 1}, {999, -49949, 0}, {1, -50, 1}, {1, -49, 0}};
+        for (int[] d : due) {
+            // an AMOUNT of a hundred thousand
+            ThinLine x = with(STRAIGHT, 150, -100, 20, d[1]);
+            x.line(0, 150, 1);
+            x.line(0, 20, d[0]);
+            Due.due("an amount of 100000 at a depth of " + d[0] + ", left " + d[1], x.stuff(0, 0, 0, 2), d[2]);
         }
     }
 
@@ -394,6 +406,10 @@ public final class StuffEdgesTest {
         Due.due("smooth: as if the wave were not", x.smooth(0, 0), due);
         x.raw(0, 299, NOTHING);
         Due.due("smooth: no deep", x.smooth(0, 0), NOTHING);
+        // a gap at the first COLOUR has the rest 0, as 20 and 40 by 5
+        x = with("bends 0; wide 0; gap 0 0", 20, 50, 40, 50, 7, -30, 27, -30, 0, -10);
+        Due.due("the period is 5", x.ripple(0, 0, 0), 5);
+        Due.due("smooth at the first", x.smooth(0, 0), 60);
         // no USED COLOUR with its rest: 151 by 2 is 1
         x = with("bends 0; wide 0; gap 151 151; skip colour = 299", 151, -5, 2, 0, 4, 0);
         Due.due("the period is 2", x.ripple(0, 0, 0), 2);

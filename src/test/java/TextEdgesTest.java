@@ -24,6 +24,9 @@ public final class TextEdgesTest {
         theFirstAlongTheText();
         theLeastOfOnePlace();
         aFaultEmptiesTheTape();
+        nothingStaysOfAFault();
+        eachTextHasItsOwnSixty();
+        testsTurned();
         asManyAsCanBe();
         Due.end();
     }
@@ -449,6 +452,61 @@ public final class TextEdgesTest {
             Due.due("a text: nothing is left of it", x.text(sort), -3);
             Due.due("a text: one came", x.count(4 + sort), 1);
         }
+    }
+
+    /** A text behind one with a FAULT is that text alone. */
+    private static void nothingStaysOfAFault() {
+        ThinLine x = new ThinLine();
+        x.row(0, 0);
+        x.line(0, 0, 1000);
+        Due.due("a law with a fault", Due.law(x, "noise 0;shine 700;eats 0 9;ripple 2 90;?"), -2 - (1 + 8 * 39));
+        Due.due("a law", Due.law(x, "noise 0"), 0);
+        x.make(0, 0, 1, 0, 0);
+        Due.due("no clause of the other law", x.read(0, 0), 0);
+        Due.due("another law with a fault", Due.law(x, "noise 0;eats 0 900;?"), -2 - (1 + 8 * 19));
+        Due.due("another law", Due.law(x, "noise 0"), 1);
+        x.make(1, 0, 1, 0, 0);
+        Due.due("nothing is eaten by the law with a fault", x.read(0, 0), 0);
+        Due.due("a curve with a fault", Due.curve(x, "wide 50;skip 1<2;bends 3;gap 0 9;?"), -2 - (1 + 8 * 33));
+        Due.due("a curve", Due.curve(x, "wide 3"), 0);
+        x.make(0, 0, 1, 0, 299);
+        Due.due("no clause of the other curve: used", x.deep(0, 0, 4), 280);
+        Due.due("no clause of the other curve: knots", x.deep(0, 0, 3), 14);
+        Due.due("no clause of the other curve: the gap", x.curve(0, 0, 140, 0), 0);
+        Due.due("a way with a fault", Due.way(x, "gives 5;gives 7;?"), -2 - (1 + 8 * 16));
+        Due.due("a way", Due.way(x, "gives 1"), 0);
+        Due.due("no clause of the other way", x.gives(0), 1);
+    }
+
+    private static void eachTextHasItsOwnSixty() {
+        ThinLine x = new ThinLine();
+        String sixty = "1" + "+1".repeat(59);
+        for (int i = 0; i < 3; i++) {
+            for (int n = 0; n < 4; n++) Due.due("sixty and a fault", Due.way(x, "gives " + sixty + " ?"), -2 - (1 + 8 * 126));
+            Due.due("sixty", Due.way(x, "gives " + sixty), i);
+            Due.due("worth sixty", x.gives(i), 60);
+            Due.due("sixty-one", Due.way(x, "gives " + sixty + "+1"), -2 - (1 + 8 * 126 + 3));
+        }
+        Due.due("sixty of another sort", Due.law(x, "shine " + sixty), 0);
+        Due.due("the first is as it was", x.gives(0), 60);
+    }
+
+    private static void testsTurned() {
+        String[] holds = {"1<2", "not 1>2", "not not 1<2", "not [1>2 or 1>2]", "[not 1>2]", "not 1>2 and not 1>2", "1>2 or not 1>2", "not " + "not ".repeat(9) + "1<2"};
+        String[] not = {"1>2", "not 1<2", "not not 1>2", "not [1>2 or 1<2]", "[not 1<2]", "not 1>2 and not 1<2", "1>2 or not 1<2", "not ".repeat(9) + "1<2"};
+        for (int i = 0; i < holds.length; i++) {
+            ThinLine x = new ThinLine();
+            Due.way(x, "gives 5 if " + holds[i]);
+            Due.way(x, "gives 5 if " + not[i]);
+            Due.due(holds[i], x.gives(0), 5);
+            Due.due(not[i], x.gives(1), 0);
+        }
+        // all ten deep, and each turns the one within
+        ThinLine x = new ThinLine();
+        Due.way(x, "gives 5 if " + "not[".repeat(5) + "1<2" + "]".repeat(5));
+        Due.way(x, "gives 5 if " + "[not ".repeat(4) + "1<2" + "]".repeat(4));
+        Due.due("turned five times", x.gives(0), 0);
+        Due.due("turned four times", x.gives(1), 5);
     }
 
     private static void asManyAsCanBe() {

@@ -22,6 +22,8 @@ public final class ToldEdgesTest {
         textsStay();
         imagesAreApart();
         backInTime();
+        imagesKeepEachRow();
+        imagesKeepTheTapesBytes();
         Due.end();
     }
 
@@ -386,5 +388,49 @@ public final class ToldEdgesTest {
         Due.due("the tape is as it was", x.count(9), 8);
         Due.due("and a way once more", x.text(2), 1);
         Due.due("of the same bytes", x.gives(1), 77);
+    }
+
+    private static void imagesKeepEachRow() {
+        ThinLine x = new ThinLine();
+        Due.law(x, "shine glass * 1000 + hour");
+        Due.curve(x, "bends 0; wide 0; gap 150 150");
+        x.image(0);
+        x.clock(3);
+        x.row(1, 5);
+        x.image(1);
+        x.back(0);
+        x.clock(7);
+        x.row(2, 9);
+        x.row(3, 11);
+        x.image(2);
+        int[][] due = {
+            // image, rows, RAW made for the first ROW, the WEEK from which it is KNOWN
+            {1, 1, 1005, 3}, {2, 2, 2009, 7}, {1, 1, 1005, 3}};
+        for (int[] d : due) {
+            Due.due("back(" + d[0] + ")", x.back(d[0]), d[1]);
+            x.make(0, 0, 0, 0, 299);
+            Due.due("its glass and hour", x.read(0, 0), d[2]);
+            Due.due("not known before", x.together(0, 15, d[3] - 1, 2), 0);
+            Due.due("known from then", x.together(0, 15, d[3], 2), 1);
+        }
+    }
+
+    private static void imagesKeepTheTapesBytes() {
+        ThinLine x = new ThinLine();
+        Due.tape(x, "gives 77 ");
+        x.image(1);
+        x.end(0);
+        Due.tape(x, "gives 88888888888888888888888888");
+        x.image(2);
+        Due.due("back to nine", x.back(1), 0);
+        Due.due("nine bytes", x.count(9), 9);
+        Due.tape(x, "+ 1");
+        Due.due("a way of these", x.text(2), 0);
+        Due.due("the bytes are those", x.gives(0), 78);
+        x.back(2);
+        Due.due("32 bytes", x.count(9), 32);
+        x.end(8);
+        Due.due("a way of the others", x.text(2), 1);
+        Due.due("the bytes are the others", x.gives(1), 88);
     }
 }
