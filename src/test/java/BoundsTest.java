@@ -35,6 +35,7 @@ public final class BoundsTest {
         candidatesAndWays();
         images();
         onNothing();
+        asManyAsCanBe();
         Due.due("no object is called more than 512 times", Calls.most() <= 512, true);
         Due.end();
     }
@@ -233,5 +234,34 @@ public final class BoundsTest {
             Due.due("new: " + Calls.spell(name, args), Calls.call(x, name, args), (Integer) c[1]);
         }
         for (int what = 0; what <= 10; what++) Due.due("new, and asked: count(" + what + ")", x.count(what), 0);
+    }
+
+    /** A filled object with as many of one kind as can be: one more is refused and nothing happens. */
+    private static void full(int what, int most, String name, int[] wrong, int[]... more) {
+        ThinLine x = full(what, most, more, name);
+        ThinLine untouched = full(what, most, more, name);
+        Due.due(name + ": as many as can be", x.count(what), most);
+        Due.due("one more: " + Calls.spell(name, more[0]), Calls.call(x, name, more[0]), -1);
+        Due.due("one more, not as told: " + Calls.spell(name, wrong), Calls.call(x, name, wrong), -1);
+        Due.due("nothing happens behind one more " + name, Filled.answers(x).equals(Filled.answers(untouched)), true);
+    }
+
+    /** The first of the calls is kept for the one more. */
+    private static ThinLine full(int what, int most, int[][] more, String name) {
+        ThinLine x = Filled.fill(new ThinLine());
+        for (int i = 0; i < most && x.count(what) < most; i++) Calls.call(x, name, more[(i + 1) % more.length]);
+        return x;
+    }
+
+    private static void asManyAsCanBe() {
+        full(1, 24, "row", new int[] {4, 0}, new int[] {3, 999}, new int[] {0, 10});
+        full(2, 40, "slip", new int[] {0, 2, 1, 0}, new int[] {0, 50, 50, 1}, new int[] {3, 0, 299, 9});
+        int[][] lines = new int[60][];
+        for (int i = 0; i < 60; i++) lines[i] = new int[] {i % 12, 200 + i, 1 + i};
+        full(3, 60, "line", new int[] {12, 0, 1}, lines);
+        full(7, 10, "candidate", new int[] {0, 100}, new int[] {1, 99});
+        full(10, 8, "house", new int[] {0, 0, 16}, new int[] {1, -999999, 15});
+        // fifteen bytes are there, and nineteen times twenty come; the twentieth time they would be 415
+        full(9, 395, "feed", new int[] {-1, -1, -1, -1, -1}, new int[] {0x20202020, 0x20202020, 0x20202020, 0x20202020, 0x20202020});
     }
 }
