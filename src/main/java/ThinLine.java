@@ -873,7 +873,7 @@ public final class ThinLine {
     private int givenBy(Text way) {
         sums.setWeather(book);
         long sum = 0;
-        for (int clause = 0; clause < way.clauses; clause++) {
+        for (int clause = 0; clause < way.clauses && clause < MOST_CLAUSES; clause++) {
             sum += sums.holds(way, clause) ? sums.sumOf(way, clause) : 0;
         }
         return (int) held(sum, 0, 99999999);
